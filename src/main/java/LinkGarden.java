@@ -339,7 +339,7 @@ public final class LinkGarden {
     /** Makes the trial the garden, as one change, unless the answer is an error. */
     private int settle(int answer) {
         if (answer >= 0) {
-            history.record(garden);
+            history.keep(garden);
             garden.copyFrom(trial);
         }
         return answer;
@@ -717,7 +717,7 @@ public final class LinkGarden {
         int walkedNumber() {
             int sum = 0;
             for (int place = 0; place < PLACES; place++) {
-                if (strength[place] > 0 && walked[place]) {
+                if (walked[place]) {
                     sum++;
                 }
             }
@@ -878,7 +878,7 @@ public final class LinkGarden {
             }
         }
 
-        void record(Garden garden) {
+        void keep(Garden garden) {
             if (size == MAX_STATES) {
                 dropOldest();
             }
@@ -920,8 +920,9 @@ public final class LinkGarden {
         /** Does the orders in a garden, up to the first one that is not possible. */
         void perform(Garden garden) {
             at = 0;
+            orders = 0;
             reason = NO_FAULT;
-            for (orders = 0; orders < MAX_TEXT && at < length; orders++) {
+            for (int turn = 0; turn < MAX_TEXT && at < length; turn++) {
                 position = at;
                 if (!readOrder()) {
                     reason = BAD_FORM;
@@ -934,6 +935,7 @@ public final class LinkGarden {
                     cause = answer;
                     return;
                 }
+                orders++;
             }
         }
 

@@ -12,6 +12,7 @@ import java.util.TreeSet;
 public final class ModelTests {
     private static final int CALLS = 512;
     private static final int RUNS = 400;
+    private static final int PLAY = 24;
     private static final int INVALID = -1000001;
     private static final int NOT_POSSIBLE = -1000002;
     private static final int LIMIT = -1000003;
@@ -62,11 +63,11 @@ public final class ModelTests {
         if (!typing.isEmpty()) {
             return new int[] {21, typing.removeFirst(), 0, 0};
         }
-        int kind = below(40);
-        if (kind >= 24) {
+        int kind = below(41);
+        if (kind > PLAY) {
             // the calls that change most are called more often
             int[] favoured = {1, 1, 4, 4, 4, 4, 5, 6, 6, 7, 0, 1, 3, 8, 4, 6};
-            kind = favoured[kind - 24];
+            kind = favoured[kind - PLAY - 1];
         }
         if (kind == 20) {
             kind = below(3) == 0 ? 20 : 4;
@@ -143,7 +144,7 @@ public final class ModelTests {
 
     private static String order() {
         switch (below(6)) {
-            case 0: return "p" + below(70) + ";";
+            case 0: return "p" + (below(4) == 0 ? "000" + below(20) : below(70)) + ";";
             case 1: return "l" + below(6) + "," + below(6) + "," + (1 + below(40)) + ";";
             case 2: return "w" + below(2) + "," + below(6) + ";";
             case 3: return "s0" + below(2) + "," + below(5) + ";";
