@@ -35,8 +35,6 @@ public final class PromiseTests {
         mean();
         count();
         undo();
-        undoRestoresEverything();
-        errorsChangeNothing();
         type();
         clearText();
         faultOfForm();
@@ -734,99 +732,6 @@ public final class PromiseTests {
         due("the text stays", x.count(12), 1);
         due("the next page", x.page(9), 2);
         due("has its own words", x.pageOf(2, 0), 9);
-    }
-
-    private static void undoRestoresEverything() {
-        test = "22: undo of each change";
-        LinkGarden x = new LinkGarden();
-        for (int page = 0; page < 5; page++) {
-            x.page(1 << page);
-        }
-        x.link(0, 1, 5);
-        x.link(1, 2, 2);
-        x.reader(0);
-        x.walk(0, 1);
-        x.type('e');
-        x.type(';');
-        for (int change = 0; change < 10; change++) {
-            String before = look(x);
-            due("change " + change, change(x, change) < 0 ? 1 : 0, 0);
-            due("change " + change + " is seen", look(x).equals(before) ? 1 : 0, 0);
-            x.undo();
-            due("change " + change + " is undone", look(x).equals(before) ? 1 : 0, 1);
-        }
-    }
-
-    private static int change(LinkGarden x, int which) {
-        switch (which) {
-            case 0: return x.page(3);
-            case 1: return x.link(3, 4, 9);
-            case 2: return x.cut(1, 2);
-            case 3: return x.reader(4);
-            case 4: return x.walk(0, 2);
-            case 5: return x.back(0);
-            case 6: return x.search(0, 4);
-            case 7: return x.season();
-            case 8: return x.set(2, 9);
-            default: return x.play();
-        }
-    }
-
-    private static void errorsChangeNothing() {
-        test = "22: errors are no changes";
-        LinkGarden x = withPages(2);
-        x.reader(0);
-        x.undo();
-        x.undo();
-        x.undo();
-        x.page(0);
-        x.reader(0);
-        String before = look(x);
-        int states = x.count(11);
-        x.page(-1);
-        x.link(0, 0, 1);
-        x.cut(0, 0);
-        x.reader(7);
-        x.walk(0, 0);
-        x.back(0);
-        x.search(0, 0);
-        x.set(0, 51);
-        x.type('x');
-        x.play();
-        x.clearText();
-        due("nothing has changed", look(x).equals(before) ? 1 : 0, 1);
-        due("no state more", x.count(11), states);
-        x.type(31);
-        due("no character", x.count(12), 0);
-    }
-
-    /** All that the calls tell of a garden, but for the history and the text. */
-    private static String look(LinkGarden x) {
-        StringBuilder seen = new StringBuilder();
-        for (int what = 0; what <= 22; what++) {
-            if (what != 11 && what != 12) {
-                seen.append(x.count(what)).append(' ');
-            }
-        }
-        for (int page = 0; page < 12; page++) {
-            for (int what = 0; what < 7; what++) {
-                seen.append(x.pageOf(page, what)).append(' ');
-            }
-            for (int to = 0; to < 12; to++) {
-                for (int what = 0; what < 3; what++) {
-                    seen.append(x.linkOf(page, to, what)).append(' ');
-                }
-            }
-        }
-        for (int reader = 0; reader < 4; reader++) {
-            for (int what = 0; what < 5; what++) {
-                seen.append(x.readerOf(reader, what)).append(' ');
-            }
-            for (int index = 0; index < 8; index++) {
-                seen.append(x.trail(reader, index)).append(' ');
-            }
-        }
-        return seen.toString();
     }
 
     private static void type() {
