@@ -1,8 +1,12 @@
+import java.io.IOException;
 import java.lang.reflect.Constructor;
 import java.lang.reflect.Field;
 import java.lang.reflect.Member;
 import java.lang.reflect.Method;
 import java.lang.reflect.Modifier;
+import java.nio.charset.StandardCharsets;
+import java.nio.file.Files;
+import java.nio.file.Paths;
 import java.util.ArrayList;
 import java.util.Arrays;
 import java.util.HashSet;
@@ -10,7 +14,10 @@ import java.util.List;
 import java.util.Set;
 import java.util.TreeSet;
 
-/** The face is the document's, no less and no more (rule 1 of LANGUAGE.md). */
+/**
+ * The face is the document's, no less and no more (rule 1 of LANGUAGE.md), and
+ * its calls stand in the document's order, under the headings that it names.
+ */
 public final class FaceTests {
     private static final List<String> FACE = Arrays.asList(
         "INVALID_ARGUMENT=-1000001", "NOT_POSSIBLE=-1000002",
@@ -22,9 +29,17 @@ public final class FaceTests {
         "way/3", "would/2", "withers/1", "rescue/1", "hub/1", "mean/0", "count/1", "undo/0",
         "type/1", "clearText/0", "fault/1", "play/0");
 
+    private static final String[] HEADINGS = {"pages, links, readers", "reading", "what there is", "what would be", "texts"};
+    private static final String[][] CALLS = {
+        {"page", "link", "cut", "reader"},
+        {"walk", "back", "search", "season", "set"},
+        {"pageOf", "linkOf", "readerOf", "trail"},
+        {"way", "would", "withers", "rescue", "hub", "mean", "count", "undo"},
+        {"type", "clearText", "fault", "play"}};
+
     private static int wrong = 0;
 
-    public static void main(String[] args) throws IllegalAccessException {
+    public static void main(String[] args) throws IllegalAccessException, IOException {
         check("the class is public and final",
             Modifier.isPublic(LinkGarden.class.getModifiers())
                 && Modifier.isFinal(LinkGarden.class.getModifiers()));
@@ -32,6 +47,12 @@ public final class FaceTests {
         check("the face is " + new TreeSet<>(FACE) + ", not " + new TreeSet<>(seen),
             seen.equals(new HashSet<>(FACE)));
         checkInnerClasses();
+        String document = read("../shared/DOC.md");
+        String source = read("src/main/java/LinkGarden.java");
+        checkOrder(document, source);
+        for (int i = 0; i < HEADINGS.length; i++) {
+            checkHeading(HEADINGS[i], CALLS[i], document, source);
+        }
         System.out.println(wrong == 0 ? "the face is as due" : wrong + " faults of the face");
         if (wrong != 0) {
             System.exit(1);
@@ -95,6 +116,41 @@ public final class FaceTests {
                     !faceNames.contains(method.getName()));
             }
         }
+    }
+
+    /** Each row of the document's face is in the source, behind the one ahead of it. */
+    private static void checkOrder(String document, String source) {
+        int at = 0;
+        int rows = 0;
+        String face = document.substring(document.indexOf("```java"), document.indexOf("## Terms"));
+        for (String row : face.split("\n")) {
+            if (row.startsWith("    public ")) {
+                int place = source.indexOf(row.replace(");", ") {"), at);
+                check("the source has, in its place: " + row.trim(), place >= 0);
+                at = Math.max(at, place);
+                rows++;
+            }
+        }
+        check("the document has the face's " + FACE.size() + " rows", rows == FACE.size());
+    }
+
+    /** The document asks for the heading, and the source has it ahead of its calls and no others. */
+    private static void checkHeading(String heading, String[] calls, String document, String source) {
+        String sentence = "Ahead of the calls `" + String.join("`, `", calls) + "` the interface says: ---- " + heading + ".";
+        check("the document says: " + sentence, document.contains(sentence));
+        int start = source.indexOf("    // ---- " + heading + "\n");
+        check("the source has the heading " + heading, start >= 0);
+        int next = source.indexOf("    // ---- ", start + 1);
+        String part = source.substring(Math.max(start, 0), next < 0 ? source.length() : next);
+        int faceCalls = part.split("\n    public int ", -1).length - 1;
+        check(heading + " has " + calls.length + " calls, not " + faceCalls, faceCalls == calls.length);
+        for (String call : calls) {
+            check(call + " is under " + heading, part.contains("\n    public int " + call + "("));
+        }
+    }
+
+    private static String read(String file) throws IOException {
+        return new String(Files.readAllBytes(Paths.get(file)), StandardCharsets.UTF_8);
     }
 
     private static void check(String what, boolean holds) {
